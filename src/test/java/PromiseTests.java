@@ -45,6 +45,7 @@ public final class PromiseTests {
         first();
         firstGroups();
         count();
+        fullLand();
         refusedChangesNothing();
         for (String line : wrong) System.out.println(line);
         System.out.println(wrong.isEmpty() ? "all answers are as due" : wrong.size() + " answers are not as due");
@@ -970,6 +971,28 @@ public final class PromiseTests {
         for (int what = 0; what <= 7; what++) due("count(" + what + ")", x.count(what), shaken[what]);
         due("what 8", x.count(8), OUTSIDE);
         for (int n : FAR) due("what", x.count(n), OUTSIDE);
+    }
+
+    private static void fullLand() {
+        at = "a land with all its things";
+        TrueWeights x = new TrueWeights();
+        for (int n = 0; n < 40; n++) x.thing(SCALE + n % 2, 1, 1, n % 10);
+        for (int n = 0; n < 40; n++) due("first(" + n + ")", x.first(n), n);
+        for (int n = 40; n <= 42; n++) {
+            due("first(" + n + ")", x.first(n), NONE);
+            due("about(" + n + ", 0)", x.about(n, 0), UNKNOWN);
+            due("trial(" + n + ")", x.trial(n, 0, 0, 0), UNKNOWN);
+            due("seal(" + n + ")", x.seal(n, 1), UNKNOWN);
+        }
+        due("due", x.count(3), 40);
+        TrueWeights y = new TrueWeights();
+        y.thing(ROOT, 0, 1, 0);
+        for (int n = 1; n < 40; n++) y.thing(SCALE, 0, 4000, 0);
+        for (int n = 1; n < 40; n++) y.trial(n, 0, n, 0);
+        for (int n = 1; n < 40; n++) due("first", y.first(n - 1), 40 - n);
+        due("good", y.count(4), 39);
+        y.seal(39, 9999);
+        due("sealed", y.sealed(9999), 39);
     }
 
     private static void refusedChangesNothing() {
