@@ -642,12 +642,18 @@ public final class PromiseTests {
             y.pass(3);
             int judged = y.judge(1);
             int stays = y.stays(1);
-            for (int n = 1; n <= Math.min(stays, 19990); n++) {
-                y.pass(1);
-                due("judged " + error + " after " + n, y.judge(1), judged);
-                if (stays < 20000) due("stays", y.stays(1), stays - n);
+            // An object answers for 512 calls only, so the days between are taken in strides.
+            int stride = Math.max(1, stays / 100);
+            int last = Math.min(stays, 19997);
+            int gone = 0;
+            while (gone < last) {
+                int days = Math.min(stride, last - gone);
+                y.pass(days);
+                gone += days;
+                due("judged " + error + " after " + gone, y.judge(1), judged);
+                due("stays", y.stays(1), judged == 2 ? 20000 : stays - gone);
             }
-            if (stays < 19990) {
+            if (judged != 2) {
                 y.pass(1);
                 due("judged " + error + " in the end", y.judge(1), 2);
             }
